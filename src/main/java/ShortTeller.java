@@ -447,8 +447,8 @@ public final class ShortTeller {
         }
 
         private boolean areSame(int one, int other, int length) {
-            for (int i = 0; i < length; i++) {
-                if (signAt(one + i) != signAt(other + i)) {
+            for (int i = 0; i < length && one + i < size && other + i < size; i++) {
+                if (signs[one + i] != signs[other + i]) {
                     return false;
                 }
             }
@@ -724,7 +724,11 @@ public final class ShortTeller {
                     takeWord(NAME, at + 1);
                     break;
                 case '~':
-                    takeLeaning();
+                    if (latestName == NONE) {
+                        fail(NO_NAME_AHEAD, at);
+                    } else {
+                        takeWord(LEANING, at + 1);
+                    }
                     break;
                 default:
                     takeWord(PLAIN_WORD, at);
@@ -777,14 +781,6 @@ public final class ShortTeller {
 
         private static boolean isDigit(int sign) {
             return sign >= '0' && sign <= '9';
-        }
-
-        private void takeLeaning() {
-            if (latestName == NONE) {
-                fail(NO_NAME_AHEAD, at);
-            } else {
-                takeWord(LEANING, at + 1);
-            }
         }
 
         private void takeWord(int kind, int from) {
@@ -891,31 +887,22 @@ public final class ShortTeller {
         }
 
         int namesPutIn(int choice) {
-            int put = 0;
-            int latest = NONE;
-            for (int i = 0; i < used; i++) {
-                if ((choice & keep[i]) != 0) {
-                    if (leans[i] && name[i] != latest) {
-                        put++;
-                    }
-                    latest = name[i];
-                }
-            }
-            return put;
+            return sumOfNamesPut(choice, false);
         }
 
-        private int signsOfNamesPutIn(int choice) {
-            int signs = 0;
+        /** Of the names put for leaning words: the signs that they have more, or how many they are. */
+        private int sumOfNamesPut(int choice, boolean ofSigns) {
+            int sum = 0;
             int latest = NONE;
             for (int i = 0; i < used; i++) {
                 if ((choice & keep[i]) != 0) {
                     if (leans[i] && name[i] != latest) {
-                        signs += gain[i];
+                        sum += ofSigns ? gain[i] : 1;
                     }
                     latest = name[i];
                 }
             }
-            return signs;
+            return sum;
         }
 
         int signsOf(int choice) {
@@ -944,7 +931,7 @@ public final class ShortTeller {
                     signs += items - 2 + 4;
                 }
             }
-            return signs + signsOfNamesPutIn(choice);
+            return signs + sumOfNamesPut(choice, true);
         }
     }
 
