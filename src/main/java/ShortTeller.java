@@ -988,7 +988,6 @@ public final class ShortTeller {
                     break;
                 case SENTENCE_ENDS:
                     put(piece < MOST_OPTIONS ? '.' : ':');
-                    joint = BLANK;
                     break;
                 default:
                     writeWord(mark);
@@ -1073,7 +1072,6 @@ public final class ShortTeller {
 
         void forget() {
             isMade = false;
-            isRanked = false;
         }
 
         /** The weight of a fact has changed. */

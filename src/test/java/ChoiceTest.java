@@ -15,6 +15,8 @@ public final class ChoiceTest {
         valuesCountAFactOnce();
         signsBehindTheEnd();
         theLongestReading();
+        asManyWordsAsCanBe();
+        asManyHeadingsAsCanBe();
         CHECK.end();
     }
 
@@ -193,5 +195,37 @@ public final class ChoiceTest {
         ShortTeller y = Check.of("a (*ABCDEFGHIJKLMNOPQRST b) {~c|~d|~e|~f|~g}.");
         reads(y, 0b1010101, "a ABCDEFGHIJKLMNOPQRST, e and g.", 1);
         reads(y, 0b1111101, "a ABCDEFGHIJKLMNOPQRST, d, e, f and g.", 1);
+    }
+
+    private static void asManyWordsAsCanBe() {
+        StringBuilder text = new StringBuilder();
+        for (int sentence = 0; sentence < 10; sentence++) {
+            for (int i = 0; i < 40; i++) {
+                text.append((char) ('A' + i % 26)).append(i == 39 ? '.' : ' ');
+            }
+        }
+        String read = text.toString().replace(".", ". ").trim();
+        ShortTeller x = Check.of(text.toString());
+        CHECK.due("bytes", 800, text.length());
+        CHECK.due("words", 400, x.count(3));
+        reads(x, 1023, read, 0);
+        CHECK.due("count(7)", read.length(), x.count(7));
+        reads(x, 512, read.substring(read.length() - 80), 0);
+    }
+
+    private static void asManyHeadingsAsCanBe() {
+        StringBuilder text = new StringBuilder();
+        StringBuilder read = new StringBuilder();
+        for (int i = 0; i < 14; i++) {
+            text.append("=u. =*H").append(i).append("<").append(i).append(">. =*I").append(i).append(". ~j. ");
+            read.append("I").append(i).append(": j. ");
+        }
+        text.append("=K.");
+        ShortTeller x = Check.of(text.toString());
+        reads(x, (1 << 14) - 1, read.toString().trim(), 0);
+        reads(x, 1 << 13 | 1, "I0: j. I13: j.", 0);
+        CHECK.due("value of all", 0, x.value((1 << 14) - 1));
+        CHECK.due("count(2)", 43, x.count(2));
+        CHECK.due("count(5)", (1 << 14) - 1, x.count(5));
     }
 }
