@@ -18,6 +18,8 @@ public final class FaultTest {
         withoutAWord();
         theFirstAlongTheText();
         aSoupOfSigns();
+        allShortTexts();
+        everySignBehindEveryBeginning();
         CHECK.end();
     }
 
@@ -288,11 +290,59 @@ public final class FaultTest {
                 soup.append(parts[random.nextInt(parts.length)]);
             }
             soup.setLength(Math.min(800, soup.length()));
-            String text = soup.toString();
-            try {
-                good(text, new PlainTeller(text).options.size());
-            } catch (PlainTeller.Fault e) {
-                bad(text, e.kind, e.place);
+            compare(new ShortTeller(), soup.toString());
+        }
+    }
+
+    private static void compare(ShortTeller x, String text) {
+        int options = NONE;
+        int fault = 0;
+        int place = NONE;
+        try {
+            options = new PlainTeller(text).options.size();
+        } catch (PlainTeller.Fault e) {
+            fault = e.kind;
+            place = e.place;
+        }
+        CHECK.due("text of " + text, options, Check.take(x, text));
+        CHECK.due("fault(0) of " + text, fault, x.fault(0));
+        CHECK.due("fault(1) of " + text, place, x.fault(1));
+    }
+
+    private static void allShortTexts() {
+        String signs = "(){|}<>~*=. a1";
+        ShortTeller x = new ShortTeller();
+        for (int size = 1; size <= 5; size++) {
+            int many = (int) Math.pow(signs.length(), size);
+            for (int number = 0; number < many; number++) {
+                StringBuilder text = new StringBuilder();
+                for (int rest = number, k = 0; k < size; k++, rest /= signs.length()) {
+                    text.append(signs.charAt(rest % signs.length()));
+                }
+                compare(x, text.toString());
+            }
+        }
+    }
+
+    /** What may come next, wherever a text by the grammar is cut off; and each such beginning wants more at its end. */
+    private static void everySignBehindEveryBeginning() {
+        Random random = new Random(11);
+        MadeUpTexts texts = new MadeUpTexts(random);
+        String signs = "(){|}<>~*=. \na1\t";
+        ShortTeller x = new ShortTeller();
+        for (int i = 0; i < 300; i++) {
+            String text = texts.next(2 + random.nextInt(6)).toString();
+            boolean isGood = Check.take(x, text) != NONE;
+            for (int n = 0; n < text.length() && n < 799; n++) {
+                String begun = text.substring(0, n);
+                for (int k = 0; k < signs.length(); k++) {
+                    compare(x, begun + signs.charAt(k));
+                }
+                int options = Check.take(x, begun);
+                if (isGood && options == NONE) {
+                    CHECK.due("fault(0) of " + begun, 1, x.fault(0));
+                    CHECK.due("fault(1) of " + begun, n, x.fault(1));
+                }
             }
         }
     }

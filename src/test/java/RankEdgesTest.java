@@ -287,6 +287,9 @@ public final class RankEdgesTest {
         turned(x, 0b1111111, 5, 0b1011111);
         // The last item: the other one comes, as all else would go with the sentence.
         turned(x, 0b0111111, 5, 0b1011111);
+        // All fourteen options change.
+        turned(Check.of("a" + "(b)".repeat(13) + "."), 16383, 0, 0);
+        turned(Check.of("a(b(c(d(e)))(f)(g)(h)(i)(j)(k)(l)(m)(n))."), 16383, 0, 0);
     }
 
     private static void turnedOfOneNearnessTheGreatestValue() {

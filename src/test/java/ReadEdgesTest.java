@@ -32,6 +32,7 @@ public final class ReadEdgesTest {
         namesAreTheSameIfTheWordsAre();
         aLeaningWordLikeItsName();
         namesShorterAndLonger();
+        asManyNamesAsCanBe();
         theFirstAndTheLastSign();
         signsBelowZeroAndBehindTheEnd();
         signsOfTwoChoicesInTurn();
@@ -277,6 +278,30 @@ public final class ReadEdgesTest {
         reads(Check.of("*B a. ~" + N20 + "."), 0b11, "B a. " + N20 + ".", 0);
     }
 
+    /** Names of one sign, then of two, each of them another one, forty a sentence. */
+    private static void asManyNamesAsCanBe() {
+        String signs = "!\"#$%&'+,-/0123456789:;?@ABCDEFGHIJKLMNOPQRSTUVWXYZ[\\]^_`abcdefghijklmnopqrstuvwxyz";
+        StringBuilder text = new StringBuilder();
+        String name = "";
+        int names = 0;
+        while (text.length() < 790) {
+            char last = signs.charAt(names % signs.length());
+            name = (names < signs.length() ? "" : String.valueOf(signs.charAt(names / signs.length()))) + last;
+            text.append(names > 0 && names % 40 == 0 ? "." : "").append('*').append(name);
+            names++;
+        }
+        text.append(".~he.");
+        ShortTeller x = Check.of(text.toString());
+        int sentences = x.count(1);
+        CHECK.due("the sentences", (names + 39) / 40 + 1, sentences);
+        CHECK.due("the words", names + 1, x.count(3));
+        reads(x, 1 << (sentences - 1), name + ".", 1);
+        int lastTwo = 3 << (sentences - 2);
+        CHECK.due("named behind its name", 0, x.named(lastTwo));
+        int firstAndLast = 1 << (sentences - 1) | 1;
+        CHECK.due("named behind another name", 1, x.named(firstAndLast));
+    }
+
     private static void theFirstAndTheLastSign() {
         ShortTeller x = Check.of("=Hm. *Al a. ~he b.");
         CHECK.due("sign(3, 0)", 'H', x.sign(3, 0));
@@ -311,6 +336,9 @@ public final class ReadEdgesTest {
         CHECK.due("sign(1, 0) of the next text", 'x', x.sign(1, 0));
         CHECK.due("sign(1, 2) of the next text", NONE, x.sign(1, 2));
         CHECK.due("sign(3, 0) of the next text", NONE, x.sign(3, 0));
+        Check.take(x, "yz.");
+        CHECK.due("sign(1, 0) of the text behind it", 'y', x.sign(1, 0));
+        CHECK.due("sign(1, 2) of the text behind it", '.', x.sign(1, 2));
     }
 
     private static void valueOfKnownFacts() {

@@ -249,6 +249,9 @@ public final class TermEdgesTest {
         bad("{ | }.", 1, 2);
         bad("{{a}|b}.", 1, 3);
         bad("{{a|b}}.", 1, 6);
+        bad("{a|b}{c}.", 1, 7);
+        bad("{a|b}. {c}.", 1, 9);
+        bad("{a|b {c}}.", 1, 7);
     }
 
     private static void theLengthIfMoreMustCome() {
