@@ -192,6 +192,7 @@ public final class RankEdgesTest {
         CHECK.due("least of the first heading's", NONE, x.least(1 << 5));
         CHECK.due("least of 1 and 3", NONE, x.least(1 << 1 | 1 << 3));
         CHECK.due("least of 1 and 4", NONE, x.least(1 << 1 | 1 << 4));
+        CHECK.due("least among as many choices as can be", NONE, Check.of("a <1>.".repeat(14)).least(1 << 2));
     }
 
     private static void factsWithTheHighestBit() {

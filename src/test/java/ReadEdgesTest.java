@@ -28,6 +28,7 @@ public final class ReadEdgesTest {
         aLeaningWordWhoseNameGoes();
         aNamePutForALeaningWordIsTheLatest();
         aLeaningWordBehindAnotherName();
+        aLeaningWordAheadOfAnotherName();
         aNameInWhatIsLeftOutOfTheSentence();
         namesAreTheSameIfTheWordsAre();
         aLeaningWordLikeItsName();
@@ -247,6 +248,20 @@ public final class ReadEdgesTest {
         reads(x, 0b10110, "Bo b. he c. Al e.", 1);
         reads(x, 0b10001, "Al a. he e.", 0);
         reads(x, 0b11111, "Al a. Bo b. he c. Al d. he e.", 0);
+    }
+
+    private static void aLeaningWordAheadOfAnotherName() {
+        ShortTeller x = Check.of("*Alma a. ~she met *Bo and ~his *Cy. ~he b.");
+        reads(x, 0b111, "Alma a. she met Bo and his Cy. he b.", 0);
+        reads(x, 0b110, "Alma met Bo and his Cy. he b.", 1);
+        reads(x, 0b101, "Alma a. Cy b.", 1);
+        ShortTeller y = Check.of("*Alma a. {~she|~her *Bo|~his *Cy b} c ~it.");
+        reads(y, 0b11110, "Alma, her Bo and his Cy b c it.", 1);
+        reads(y, 0b10110, "Alma and Bo Cy b c it.", 2);
+        reads(y, 0b11010, "Alma Bo and his Cy b c it.", 1);
+        reads(y, 0b10010, "Bo Cy b c it.", 1);
+        reads(y, 0b01010, "Alma Bo c Cy.", 2);
+        reads(y, 0b00111, "Alma a. she c Cy.", 1);
     }
 
     private static void aNameInWhatIsLeftOutOfTheSentence() {
