@@ -251,11 +251,11 @@ public final class ShortTeller {
         // Between two words stands another sign, so there are at most half as many as bytes.
         static final int ROOM = TAPE_ROOM / 2 + 4 * MOST_OPTIONS;
 
-        final int[] kind = new int[ROOM];
-        final int[] piece = new int[ROOM];
-        final int[] at = new int[ROOM];
-        final int[] size = new int[ROOM];
-        final int[] name = new int[ROOM];
+        private final int[] kind = new int[ROOM];
+        private final int[] piece = new int[ROOM];
+        private final int[] at = new int[ROOM];
+        private final int[] size = new int[ROOM];
+        private final int[] name = new int[ROOM];
         int used = 0;
 
         void add(int itsKind, int itsPiece, int itsPlace, int itsSize, int itsName) {
@@ -268,6 +268,30 @@ public final class ShortTeller {
             size[used] = itsSize;
             name[used] = itsName;
             used++;
+        }
+
+        private boolean isMark(int mark) {
+            return mark >= 0 && mark < used;
+        }
+
+        int kindOf(int mark) {
+            return isMark(mark) ? kind[mark] : NONE;
+        }
+
+        int pieceOf(int mark) {
+            return isMark(mark) ? piece[mark] : NONE;
+        }
+
+        int placeOf(int mark) {
+            return isMark(mark) ? at[mark] : NONE;
+        }
+
+        int sizeOf(int mark) {
+            return isMark(mark) ? size[mark] : 0;
+        }
+
+        int nameOf(int mark) {
+            return isMark(mark) ? name[mark] : NONE;
         }
     }
 
@@ -380,10 +404,9 @@ public final class ShortTeller {
             if (options >= MOST_OPTIONS) {
                 return NONE;
             }
-            int option = options;
-            pieces[option].begin(kind, within, 1 << option);
+            pieces[options].begin(kind, within, 1 << options);
             options++;
-            return option;
+            return options - 1;
         }
 
         int openSentence() {
@@ -421,9 +444,10 @@ public final class ShortTeller {
             return lists - 1;
         }
 
-        int openItem(int list, int within) {
-            int option = openOption(ITEM, within);
-            if (option != NONE && list >= 0 && list < lists) {
+        /** The number of a new item, NONE if there are too many. */
+        int openItem(int list) {
+            int option = list >= 0 && list < lists ? openOption(ITEM, listWithin[list]) : NONE;
+            if (option >= 0) {
                 pieces[option].list = list;
                 listItems[list] |= 1 << option;
                 marks.add(ITEM_BEGINS, option, NONE, 0, NONE);
@@ -552,7 +576,7 @@ public final class ShortTeller {
         boolean begun = false;
         boolean worded = false;
 
-        void open(int itsKind, int itsPiece, int place) {
+        void begin(int itsKind, int itsPiece, int place) {
             kind = itsKind;
             piece = itsPiece;
             start = place;
@@ -575,6 +599,8 @@ public final class ShortTeller {
         private int at = 0;
         /** How many ( and { are open in the sentence. */
         private int level = OUTSIDE;
+        /** What is open innermost, where something is. */
+        private Frame top;
         private int sentenceWords = 0;
         private int latestName = NONE;
 
@@ -584,6 +610,7 @@ public final class ShortTeller {
             for (int i = 0; i < frames.length; i++) {
                 frames[i] = new Frame();
             }
+            top = frames[0];
         }
 
         void scan() {
@@ -624,11 +651,10 @@ public final class ShortTeller {
             if (level == OUTSIDE) {
                 return sign == '=' || mayBeginPart(sign);
             }
-            Frame frame = frames[level];
             if (mayBeginPart(sign)) {
-                return frame.kind != HEADING || (sign != '(' && sign != '{' && sign != '~');
+                return top.kind != HEADING || (sign != '(' && sign != '{' && sign != '~');
             }
-            return frame.begun && mayEnd(frame, sign);
+            return top.begun && mayEnd(top, sign);
         }
 
         private static boolean mayEnd(Frame frame, int sign) {
@@ -665,10 +691,18 @@ public final class ShortTeller {
             }
         }
 
+        /** Opens what begins here within what is open. */
+        private void open(int kind, int piece) {
+            if (level + 1 < frames.length) {
+                level++;
+                top = frames[level];
+                top.begin(kind, piece, at);
+            }
+        }
+
         private void openHeading() {
-            level = 0;
             sentenceWords = 0;
-            frames[0].open(HEADING, story.openHeading(), at);
+            open(HEADING, story.openHeading());
             at++;
         }
 
@@ -677,12 +711,11 @@ public final class ShortTeller {
             if (level == OUTSIDE && !openSentence()) {
                 return false;
             }
-            Frame frame = frames[level];
-            if (frame.begun) {
+            if (top.begun) {
                 return true;
             }
-            frame.begun = true;
-            return frame.kind != ITEM || openItem(frame);
+            top.begun = true;
+            return top.kind != ITEM || openItem();
         }
 
         private boolean openSentence() {
@@ -691,21 +724,19 @@ public final class ShortTeller {
                 fail(TOO_MUCH, at);
                 return false;
             }
-            level = 0;
             sentenceWords = 0;
-            frames[0].open(SENTENCE, option, at);
+            open(SENTENCE, option);
             return true;
         }
 
-        private boolean openItem(Frame frame) {
-            int around = level > 0 ? frames[level - 1].piece : NONE;
-            frame.piece = story.openItem(frame.list, around);
-            if (frame.piece == NONE) {
+        private boolean openItem() {
+            top.piece = story.openItem(top.list);
+            if (top.piece == NONE) {
                 fail(TOO_MUCH, at);
                 return false;
             }
-            frame.start = at;
-            frame.items++;
+            top.start = at;
+            top.items++;
             return true;
         }
 
@@ -736,25 +767,23 @@ public final class ShortTeller {
         }
 
         private void openAside() {
-            int option = level < MOST_DEPTH ? story.openOption(ASIDE, frames[level].piece) : NONE;
+            int option = level < MOST_DEPTH ? story.openOption(ASIDE, top.piece) : NONE;
             if (option == NONE) {
                 fail(TOO_MUCH, at);
                 return;
             }
-            level++;
-            frames[level].open(ASIDE, option, at);
+            open(ASIDE, option);
             at++;
         }
 
         private void openList() {
-            int list = level < MOST_DEPTH ? story.openList(frames[level].piece) : NONE;
+            int list = level < MOST_DEPTH ? story.openList(top.piece) : NONE;
             if (list == NONE) {
                 fail(TOO_MUCH, at);
                 return;
             }
-            level++;
-            frames[level].open(ITEM, NONE, at);
-            frames[level].list = list;
+            open(ITEM, NONE);
+            top.list = list;
             at++;
         }
 
@@ -774,7 +803,7 @@ public final class ShortTeller {
                 fail(CANNOT_STAND, end);
             } else {
                 facts.addPlace(number);
-                story.addFact(frames[level].piece, number);
+                story.addFact(top.piece, number);
                 at = end + 1;
             }
         }
@@ -801,39 +830,46 @@ public final class ShortTeller {
         private void keepWord(int kind, int from, int length) {
             sentenceWords++;
             story.words++;
-            for (int around = 0; around <= level; around++) {
+            for (int around = 0; around <= level && around < frames.length; around++) {
                 story.addWord(frames[around].piece);
             }
-            Frame frame = frames[level];
-            frame.worded = true;
-            story.addSigns(frame.piece, length + 1);
+            top.worded = true;
+            story.addSigns(top.piece, length + 1);
             if (kind == NAME) {
                 latestName = story.nameOf(from, length);
             }
-            story.marks.add(kind, frame.piece, from, length, kind == PLAIN_WORD ? NONE : latestName);
+            story.marks.add(kind, top.piece, from, length, kind == PLAIN_WORD ? NONE : latestName);
         }
 
         /** Ends a sentence, an aside or an item. */
         private void close(int sign) {
-            Frame frame = frames[level];
-            if (!frame.worded) {
-                fail(NO_WORD, frame.start);
+            if (!top.worded) {
+                fail(NO_WORD, top.start);
                 return;
             }
             at++;
-            if (sign == '|') {
-                frame.begun = false;
-                frame.worded = false;
-                return;
+            switch (sign) {
+                case '|':
+                    top.begun = false;
+                    top.worded = false;
+                    break;
+                case '.':
+                    // One sign more: the blank between two sentences.
+                    story.addSigns(top.piece, 1);
+                    story.marks.add(SENTENCE_ENDS, top.piece, NONE, 0, NONE);
+                    level = OUTSIDE;
+                    break;
+                default:
+                    leave(sign == '}');
             }
-            if (sign == '.') {
-                // One sign more: the blank between two sentences.
-                story.addSigns(frame.piece, 1);
-                story.marks.add(SENTENCE_ENDS, frame.piece, NONE, 0, NONE);
-            }
-            level--;
-            if (sign == '}' && level >= 0) {
-                frames[level].worded = true;
+        }
+
+        /** Behind an aside or a list goes on what is around it; each item of a list has a word. */
+        private void leave(boolean isList) {
+            if (level > 0 && level < frames.length) {
+                level--;
+                top = frames[level];
+                top.worded = top.worded || isList;
             }
         }
     }
@@ -856,10 +892,10 @@ public final class ShortTeller {
             used = 0;
             int pieceAhead = NONE;
             for (int mark = 0; mark < story.marks.used; mark++) {
-                int kind = story.marks.kind[mark];
+                int kind = story.marks.kindOf(mark);
                 if (kind == NAME || kind == LEANING) {
-                    gather(mark, kind == LEANING, story.marks.piece[mark] == pieceAhead);
-                    pieceAhead = story.marks.piece[mark];
+                    gather(mark, kind == LEANING, story.marks.pieceOf(mark) == pieceAhead);
+                    pieceAhead = story.marks.pieceOf(mark);
                 }
             }
         }
@@ -878,10 +914,10 @@ public final class ShortTeller {
             if (used >= keep.length) {
                 return;
             }
-            int itsName = story.marks.name[mark];
-            keep[used] = story.keepOf(story.marks.piece[mark]);
+            int itsName = story.marks.nameOf(mark);
+            keep[used] = story.keepOf(story.marks.pieceOf(mark));
             name[used] = itsName;
-            gain[used] = story.sizeOfName(itsName) - story.marks.size[mark];
+            gain[used] = story.sizeOfName(itsName) - story.marks.sizeOf(mark);
             leans[used] = itLeans;
             used++;
         }
@@ -973,7 +1009,7 @@ public final class ShortTeller {
             joint = NOTHING;
             latestName = NONE;
             for (int mark = 0; mark < story.marks.used; mark++) {
-                if ((choice & story.keepOf(story.marks.piece[mark])) != 0) {
+                if ((choice & story.keepOf(story.marks.pieceOf(mark))) != 0) {
                     writeMark(mark, choice);
                 }
             }
@@ -981,8 +1017,8 @@ public final class ShortTeller {
         }
 
         private void writeMark(int mark, int choice) {
-            int piece = story.marks.piece[mark];
-            switch (story.marks.kind[mark]) {
+            int piece = story.marks.pieceOf(mark);
+            switch (story.marks.kindOf(mark)) {
                 case ITEM_BEGINS:
                     joinItem(story.keepOf(piece), choice & story.itemsBeside(piece));
                     break;
@@ -1004,13 +1040,13 @@ public final class ShortTeller {
         }
 
         private void writeWord(int mark) {
-            int kind = story.marks.kind[mark];
-            int name = story.marks.name[mark];
+            int kind = story.marks.kindOf(mark);
+            int name = story.marks.nameOf(mark);
             putJoint();
             if (kind == LEANING && name != latestName) {
                 putSigns(story.placeOfName(name), story.sizeOfName(name));
             } else {
-                putSigns(story.marks.at[mark], story.marks.size[mark]);
+                putSigns(story.marks.placeOf(mark), story.marks.sizeOf(mark));
             }
             if (kind != PLAIN_WORD) {
                 latestName = name;
@@ -1090,8 +1126,9 @@ public final class ShortTeller {
         int bestFor(int room) {
             rank();
             for (int i = 0; i < used; i++) {
-                if (signs[byRank[i]] <= room) {
-                    return choices[byRank[i]];
+                int place = byRank[i];
+                if (isPlace(place) && signs[place] <= room) {
+                    return choices[place];
                 }
             }
             return NONE;
@@ -1099,17 +1136,23 @@ public final class ShortTeller {
 
         int choiceAt(int itsRank) {
             rank();
-            return itsRank >= 0 && itsRank < used ? choices[byRank[itsRank]] : NONE;
+            int place = isPlace(itsRank) ? byRank[itsRank] : NONE;
+            return isPlace(place) ? choices[place] : NONE;
         }
 
         int leastFor(int wanted) {
             make();
             for (int i = 0; i < used; i++) {
-                if ((told[byLength[i]] & wanted) == wanted) {
-                    return signs[byLength[i]];
+                int place = byLength[i];
+                if (isPlace(place) && (told[place] & wanted) == wanted) {
+                    return signs[place];
                 }
             }
             return NONE;
+        }
+
+        private boolean isPlace(int place) {
+            return place >= 0 && place < used;
         }
 
         int nearest(int choice, int option) {
@@ -1117,10 +1160,11 @@ public final class ShortTeller {
             int nearest = NONE;
             int fewest = MOST_OPTIONS + 1;
             for (int i = 0; i < used; i++) {
-                int changed = choices[byRank[i]] ^ choice;
+                int place = byRank[i];
+                int changed = isPlace(place) ? choices[place] ^ choice : 0;
                 if ((changed & (1 << option)) != 0 && Integer.bitCount(changed) < fewest) {
                     fewest = Integer.bitCount(changed);
-                    nearest = choices[byRank[i]];
+                    nearest = choice ^ changed;
                 }
             }
             return nearest;
@@ -1136,7 +1180,7 @@ public final class ShortTeller {
             told[0] = 0;
             used = 1;
             for (int option = 0; option < story.options; option++) {
-                addChoicesWith(option);
+                addChoicesWith(story.pieces[option]);
             }
             for (int list = 0; list < story.lists; list++) {
                 dropChoicesWithout(list);
@@ -1167,12 +1211,11 @@ public final class ShortTeller {
         }
 
         /** Behind the choices of the options ahead come those with this one too: so they stand by number. */
-        private void addChoicesWith(int option) {
-            Piece piece = story.pieces[option];
+        private void addChoicesWith(Piece piece) {
             int without = used;
             for (int i = 0; i < without; i++) {
                 if (Story.holdsOrNone(choices[i], piece.within) && used < choices.length) {
-                    choices[used] = choices[i] | (1 << option);
+                    choices[used] = choices[i] | piece.keep;
                     signs[used] = signs[i] + piece.signs;
                     told[used] = told[i] | piece.facts;
                     used++;
@@ -1185,13 +1228,19 @@ public final class ShortTeller {
             for (int i = 0; i < used; i++) {
                 boolean isRead = Story.holdsOrNone(choices[i], story.listWithin[list]);
                 if (!isRead || (choices[i] & story.listItems[list]) != 0) {
-                    choices[kept] = choices[i];
-                    signs[kept] = signs[i];
-                    told[kept] = told[i];
+                    move(i, kept);
                     kept++;
                 }
             }
             used = kept;
+        }
+
+        private void move(int from, int to) {
+            if (isPlace(from) && isPlace(to)) {
+                choices[to] = choices[from];
+                signs[to] = signs[from];
+                told[to] = told[from];
+            }
         }
 
         private void addToUntold(int fact, int change) {
@@ -1219,23 +1268,38 @@ public final class ShortTeller {
             for (int i = 0; i < used; i++) {
                 most = Math.max(most, keys[i]);
             }
-            if (heads.length < most + 2) {
-                heads = new int[Math.max(most + 2, 2 * heads.length)];
-            }
-            for (int key = 0; key < most + 2; key++) {
-                heads[key] = 0;
-            }
+            clearHeads(most + 2);
             for (int i = 0; i < used; i++) {
-                heads[keys[i] + 1]++;
+                addOneOf(keys[i] + 1);
             }
             for (int key = 0; key < most; key++) {
                 heads[key + 1] += heads[key];
             }
             for (int i = 0; i < used; i++) {
-                int key = keys[from[i]];
-                to[heads[key]] = from[i];
-                heads[key]++;
+                int place = from[i];
+                int slot = isPlace(place) ? addOneOf(keys[place]) : NONE;
+                if (isPlace(slot)) {
+                    to[slot] = place;
+                }
             }
+        }
+
+        private void clearHeads(int many) {
+            if (heads.length < many) {
+                heads = new int[Math.max(many, 2 * heads.length)];
+            }
+            for (int key = 0; key < many; key++) {
+                heads[key] = 0;
+            }
+        }
+
+        /** One more of a key: how many there were. */
+        private int addOneOf(int key) {
+            if (key < 0 || key >= heads.length) {
+                return NONE;
+            }
+            heads[key]++;
+            return heads[key] - 1;
         }
     }
 }
