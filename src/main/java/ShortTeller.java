@@ -1183,7 +1183,7 @@ public final class ShortTeller {
                 addChoicesWith(story.pieces[option]);
             }
             for (int list = 0; list < story.lists; list++) {
-                dropChoicesWithout(list);
+                dropChoicesWithout(story.listItems[list], story.listWithin[list]);
             }
             for (int i = 0; i < used; i++) {
                 signs[i] += meter.signsBesideOptions(choices[i]);
@@ -1223,11 +1223,12 @@ public final class ShortTeller {
             }
         }
 
-        private void dropChoicesWithout(int list) {
+        /** Drops those in which a list is read without an item. */
+        private void dropChoicesWithout(int items, int within) {
             int kept = 0;
             for (int i = 0; i < used; i++) {
-                boolean isRead = Story.holdsOrNone(choices[i], story.listWithin[list]);
-                if (!isRead || (choices[i] & story.listItems[list]) != 0) {
+                boolean isRead = Story.holdsOrNone(choices[i], within);
+                if (!isRead || (choices[i] & items) != 0) {
                     move(i, kept);
                     kept++;
                 }

@@ -185,9 +185,7 @@ public final class LanguageTest {
             if (node.getParameters().size() > MOST_PARAMETERS) {
                 tooLarge.add(methodName + " has too many parameters");
             }
-            long from = trees.getSourcePositions().getStartPosition(unit, node);
-            long to = trees.getSourcePositions().getEndPosition(unit, node);
-            if (to > from && unit.getLineMap().getLineNumber(to) - unit.getLineMap().getLineNumber(from) >= MOST_LINES) {
+            if (linesOf(node) > MOST_LINES) {
                 tooLarge.add(methodName + " has too many lines");
             }
             if (node.getReturnType() != null) {
@@ -196,6 +194,13 @@ public final class LanguageTest {
             super.visitMethod(node, p);
             method = null;
             return null;
+        }
+
+        private long linesOf(Tree tree) {
+            long from = trees.getSourcePositions().getStartPosition(unit, tree);
+            long to = trees.getSourcePositions().getEndPosition(unit, tree);
+            // What the compiler adds of itself has no end.
+            return to < 0 ? 0 : unit.getLineMap().getLineNumber(to) - unit.getLineMap().getLineNumber(from) + 1;
         }
 
         private void checkType(Tree type) {
@@ -293,6 +298,7 @@ public final class LanguageTest {
             return names;
         }
 
+        /** The names of what an expression is made of, but not of what stands in a row's index or goes to a call. */
         private static Set<String> namesIn(Tree tree) {
             Set<String> names = new HashSet<>();
             new TreeScanner<Void, Void>() {
@@ -305,6 +311,16 @@ public final class LanguageTest {
                 @Override
                 public Void visitMemberSelect(MemberSelectTree select, Void p) {
                     names.add(select.toString());
+                    return null;
+                }
+
+                @Override
+                public Void visitArrayAccess(ArrayAccessTree access, Void p) {
+                    return null;
+                }
+
+                @Override
+                public Void visitMethodInvocation(MethodInvocationTree call, Void p) {
                     return null;
                 }
             }.scan(tree, null);
@@ -376,11 +392,11 @@ public final class LanguageTest {
         /** Rule 6: only a written text, and never in a constructor. */
         @Override
         public Void visitThrow(ThrowTree node, Void p) {
-            boolean isNew = node.getExpression() instanceof NewClassTree;
-            if (!isNew || methodName.endsWith(".<init>")) {
+            if (!(node.getExpression() instanceof NewClassTree) || methodName.endsWith(".<init>")) {
                 notWritten.add(at(node));
+                return super.visitThrow(node, p);
             }
-            for (ExpressionTree text : isNew ? ((NewClassTree) node.getExpression()).getArguments() : List.<ExpressionTree>of()) {
+            for (ExpressionTree text : ((NewClassTree) node.getExpression()).getArguments()) {
                 if (!(text instanceof LiteralTree)) {
                     notWritten.add(at(node));
                 }
