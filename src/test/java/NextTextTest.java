@@ -30,6 +30,7 @@ public final class NextTextTest {
             }
         }
         allInARow();
+        aHeadingIsGoneInATextOfAllOptions();
         CHECK.end();
     }
 
@@ -60,6 +61,15 @@ public final class NextTextTest {
                 CHECK.due("in a row: the answers of " + text, answersOf(Check.of(text)), answersOf(x));
             }
         }
+    }
+
+    private static void aHeadingIsGoneInATextOfAllOptions() {
+        ShortTeller x = Check.of("=Head <1>. a <2>.");
+        x.value(1);
+        CHECK.due("options", 14, Check.take(x, "a.".repeat(13) + "b <1> <2>."));
+        CHECK.due("value(1)", 0, x.value(1));
+        CHECK.due("value of all but the last", 0, x.value((1 << 13) - 1));
+        CHECK.due("value of the last", 2, x.value(1 << 13));
     }
 
     private static void knowAll(ShortTeller x) {

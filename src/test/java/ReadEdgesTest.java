@@ -279,6 +279,9 @@ public final class ReadEdgesTest {
         reads(Check.of("*Al a. *All b. ~he c."), 0b101, "Al a. All c.", 1);
         reads(Check.of("*All a. *Al b. ~he c."), 0b101, "All a. Al c.", 1);
         reads(Check.of("Al a. *Al b. ~he c."), 0b101, "Al a. Al c.", 1);
+        // What stands behind a name is not of it.
+        reads(Check.of("*Al a. *Bo b. *Al. ~he c."), 0b1001, "Al a. he c.", 0);
+        reads(Check.of("*Al. *Bo b. *Al<1>a. ~he c."), 0b1001, "Al. he c.", 0);
     }
 
     private static void aLeaningWordLikeItsName() {

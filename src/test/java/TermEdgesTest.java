@@ -275,6 +275,9 @@ public final class TermEdgesTest {
         bad(times(" ", 799) + ")", 1, 799);
         bad(times(" ", 799) + "~", 3, 799);
         bad(times(" ", 797) + "<1>", 1, 800);
+        bad(times(" ", 798) + "<1", 1, 800);
+        // Every sign of it is taken by itself.
+        good("{a|b}" + times(" ", 793) + "c.", 3);
     }
 
     private static void withinFourOthers() {
